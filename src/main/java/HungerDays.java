@@ -622,10 +622,17 @@ public final class HungerDays {
             next();
         }
 
+        /** The first fault stays, and nothing is taken behind it. */
         boolean refuse(int why) {
-            faultKind = why;
-            faultPlace = start;
+            if (faultKind == 0) {
+                faultKind = why;
+                faultPlace = start;
+            }
             return false;
+        }
+
+        boolean isGood() {
+            return faultKind == 0;
         }
 
         void next() {
@@ -668,15 +675,11 @@ public final class HungerDays {
                     break;
                 }
             }
-            if (digits == 0 && letters <= 7) {
-                kind = WORD;
-                findKeyword();
-            } else {
+            if (digits > 0 || letters > 7) {
                 kind = letters == 0 && digits <= 3 ? NUMBER : BAD;
+                return;
             }
-        }
-
-        private void findKeyword() {
+            kind = WORD;
             for (int k = 0; k < WORD_COUNT; k++) {
                 if (words[k] == word) {
                     keyword = k;
@@ -708,10 +711,10 @@ public final class HungerDays {
         int takeNumber(int least, int greatest) {
             if (kind != NUMBER) {
                 refuse(NO_TOKEN);
-                return NONE;
-            }
-            if (number < least || number > greatest) {
+            } else if (number < least || number > greatest) {
                 refuse(WRONG_NUMBER);
+            }
+            if (!isGood()) {
                 return NONE;
             }
             int taken = number;
@@ -729,7 +732,7 @@ public final class HungerDays {
             if (found == NONE) {
                 refuse(WRONG_NAME);
             }
-            return found;
+            return isGood() ? found : NONE;
         }
 
         int takeNamed(Valley valley, int sort) {
@@ -797,10 +800,6 @@ public final class HungerDays {
             System.arraycopy(other.dueDate, 0, dueDate, 0, DEBTS);
         }
 
-        int dateBy(int hungerThen) {
-            return span > 0 ? hungerThen / span : 0;
-        }
-
         boolean isWinter(int hour) {
             return hour >= winterFrom && hour < winterFrom + winterLong;
         }
@@ -823,26 +822,19 @@ public final class HungerDays {
         }
 
         int numberOf(int sort, long name) {
-            switch (sort) {
-                case PERSON: return placeOf(personNames, persons, name);
-                case FOOD: return placeOf(foodNames, foods, name);
-                case MEETING: return placeOf(meetingNames, meetings, name);
-                default: return NONE;
-            }
-        }
-
-        boolean hasName(long name) {
-            return numberOf(PERSON, name) != NONE || numberOf(FOOD, name) != NONE
-                    || numberOf(MEETING, name) != NONE;
-        }
-
-        private static int placeOf(long[] names, int length, long name) {
-            for (int i = 0; i < length && i < names.length; i++) {
+            long[] names = sort == PERSON ? personNames : sort == FOOD ? foodNames : meetingNames;
+            int told = sort == PERSON ? persons : sort == FOOD ? foods : meetings;
+            for (int i = 0; i < told && i < names.length; i++) {
                 if (names[i] == name) {
                     return i;
                 }
             }
             return NONE;
+        }
+
+        boolean hasName(long name) {
+            return numberOf(PERSON, name) != NONE || numberOf(FOOD, name) != NONE
+                    || numberOf(MEETING, name) != NONE;
         }
     }
 
@@ -892,7 +884,7 @@ public final class HungerDays {
             spanTold = true;
             reader.next();
             valley.span = reader.takeNumber(1, 20);
-            return valley.span != NONE;
+            return reader.isGood();
         }
 
         private boolean readWinter() {
@@ -902,11 +894,8 @@ public final class HungerDays {
             winterTold = true;
             reader.next();
             valley.winterFrom = reader.takeNumber(0, 399);
-            if (valley.winterFrom == NONE) {
-                return false;
-            }
             valley.winterLong = reader.takeNumber(1, 200);
-            return valley.winterLong != NONE;
+            return reader.isGood();
         }
 
         private boolean readPerson() {
@@ -915,14 +904,12 @@ public final class HungerDays {
                 return reader.refuse(TOO_MANY);
             }
             reader.next();
-            if (!takeNewName(valley.personNames, p)
-                    || !takeInto(valley.grows, p, 0, 9)
-                    || !takeInto(valley.hunger, p, 0, MOST_HUNGER)
-                    || !takeInto(valley.coin, p, 0, 999)) {
-                return false;
-            }
+            valley.personNames[p] = takeNewName();
+            valley.grows[p] = reader.takeNumber(0, 9);
+            valley.hunger[p] = reader.takeNumber(0, MOST_HUNGER);
+            valley.coin[p] = reader.takeNumber(0, 999);
             valley.persons = p + 1;
-            return true;
+            return reader.isGood();
         }
 
         private boolean readFood() {
@@ -931,13 +918,11 @@ public final class HungerDays {
                 return reader.refuse(TOO_MANY);
             }
             reader.next();
-            if (!takeNewName(valley.foodNames, f)
-                    || !takeInto(valley.fills, f, 1, 60)
-                    || !takeInto(valley.store, f, 0, 5)) {
-                return false;
-            }
+            valley.foodNames[f] = takeNewName();
+            valley.fills[f] = reader.takeNumber(1, 60);
+            valley.store[f] = reader.takeNumber(0, 5);
             valley.foods = f + 1;
-            return true;
+            return reader.isGood();
         }
 
         private boolean readMeeting() {
@@ -946,16 +931,11 @@ public final class HungerDays {
                 return reader.refuse(TOO_MANY);
             }
             reader.next();
-            if (!takeNewName(valley.meetingNames, m)) {
-                return false;
-            }
+            valley.meetingNames[m] = takeNewName();
             int crowd = 0;
             for (int i = 0; i <= PERSONS && (crowd == 0 || !reader.isSign(';')); i++) {
                 int p = reader.lookNamed(valley, PERSON);
-                if (p == NONE) {
-                    return false;
-                }
-                if ((crowd >> p & 1) != 0) {
+                if (p == NONE || (crowd >> p & 1) != 0) {
                     return reader.refuse(WRONG_NAME);
                 }
                 crowd |= 1 << p;
@@ -973,47 +953,31 @@ public final class HungerDays {
             }
             reader.next();
             int from = reader.takeNamed(valley, PERSON);
-            if (from == NONE) {
-                return false;
-            }
             int to = reader.lookNamed(valley, PERSON);
-            if (to == NONE) {
-                return false;
-            }
-            if (to == from || valley.hasDebt(from, to)) {
+            if (from == NONE || to == NONE || to == from || valley.hasDebt(from, to)) {
                 return reader.refuse(WRONG_NAME);
             }
             reader.next();
-            if (!takeInto(valley.amount, d, 1, 250) || !takeInto(valley.dueDate, d, 0, DATES - 1)) {
-                return false;
-            }
             valley.debtor[d] = from;
             valley.creditor[d] = to;
+            valley.amount[d] = reader.takeNumber(1, 250);
+            valley.dueDate[d] = reader.takeNumber(0, DATES - 1);
             valley.debts = d + 1;
-            return true;
+            return reader.isGood();
         }
 
-        private boolean takeNewName(long[] names, int place) {
+        private long takeNewName() {
             if (!reader.isName()) {
-                return reader.refuse(NO_TOKEN);
+                reader.refuse(NO_TOKEN);
+            } else if (valley.hasName(reader.word)) {
+                reader.refuse(WRONG_NAME);
             }
-            if (valley.hasName(reader.word)) {
-                return reader.refuse(WRONG_NAME);
+            if (!reader.isGood()) {
+                return NONE;
             }
-            if (place < 0 || place >= names.length) {
-                return reader.refuse(TOO_MANY);
-            }
-            names[place] = reader.word;
+            long taken = reader.word;
             reader.next();
-            return true;
-        }
-
-        private boolean takeInto(int[] row, int place, int least, int greatest) {
-            if (place < 0 || place >= row.length) {
-                return reader.refuse(TOO_MANY);
-            }
-            row[place] = reader.takeNumber(least, greatest);
-            return row[place] != NONE;
+            return taken;
         }
     }
 
@@ -1067,7 +1031,7 @@ public final class HungerDays {
         }
 
         int dateOf(int p) {
-            return valley.dateBy(hunger[p]);
+            return valley.span > 0 ? hunger[p] / valley.span : 0;
         }
 
         boolean isIll(int p) {
@@ -1129,14 +1093,21 @@ public final class HungerDays {
 
         int unlikeDates(int crowd) {
             int many = 0;
-            int counted = 0;
             for (int p = 0; p < valley.persons; p++) {
-                if ((crowd >> p & 1) != 0 && (counted >> p & 1) == 0) {
+                if ((crowd >> p & 1) != 0 && !isDateOfEarlier(crowd, p)) {
                     many++;
-                    counted |= personsOf(dateOf(p));
                 }
             }
             return many;
+        }
+
+        private boolean isDateOfEarlier(int crowd, int p) {
+            for (int q = 0; q < p; q++) {
+                if ((crowd >> q & 1) != 0 && dateOf(q) == dateOf(p)) {
+                    return true;
+                }
+            }
+            return false;
         }
 
         int whyNotEat(int p, int f) {
@@ -1256,7 +1227,7 @@ public final class HungerDays {
             return rest > ownRest || rest == ownRest && q < p;
         }
 
-        /** Eats the persons below a date as far as the portions go; false: somebody has it all the same. */
+        /** The persons eat as far as the portions go, to have no such date; false: somebody has it all the same. */
         boolean eatBelow(int date) {
             for (int i = 0; i <= PORTIONS; i++) {
                 int p = firstHaving(date);
@@ -1405,11 +1376,7 @@ public final class HungerDays {
         }
 
         static int portionsIn(int plate) {
-            int sum = 0;
-            for (int f = 0; f < FOODS; f++) {
-                sum += portionsOf(plate, f);
-            }
-            return sum;
+            return (plate & 3) + (plate >> 2 & 3) + (plate >> 4 & 3) + (plate >> 6 & 3);
         }
 
         /** The greatest portion is best eaten last: if there is hunger ahead of it then, some order will do. */
@@ -1426,7 +1393,7 @@ public final class HungerDays {
             if (plate != 0 && sum - greatest >= hunger) {
                 return NONE;
             }
-            return valley.dateBy(Math.max(0, hunger - sum));
+            return valley.span > 0 ? Math.max(0, hunger - sum) / valley.span : 0;
         }
 
         /** How many plates explain a date; if some do, what they have in common is kept. */
@@ -1490,6 +1457,7 @@ public final class HungerDays {
         private final int[] guests = new int[PERSONS];
         private final int[] dates = new int[PERSONS * Plates.MOST];
         private final int[] left = new int[FOODS];
+        private final int[] leastFrom = new int[PERSONS + 1];
         private int goal;
         // For each seat and what is left of the foods: the fewest portions from there on, and for which try.
         private final int[] memo = new int[PERSONS * STORES];
@@ -1510,7 +1478,8 @@ public final class HungerDays {
             int best = NEVER;
             for (int tried = earliestDate(); tried >= 0; tried--) {
                 goal = tried;
-                if (fewestWithoutStores(plateCount) >= best) {
+                sumLeastPortions(plateCount);
+                if (leastFrom[0] >= best) {
                     continue;
                 }
                 tries++;
@@ -1551,19 +1520,18 @@ public final class HungerDays {
             return earliest;
         }
 
-        /** A date that is too dear even with full stores needs no search. */
-        private int fewestWithoutStores(int plateCount) {
-            int sum = 0;
-            for (int seat = 0; seat < seats; seat++) {
+        /** What those from each seat on need at least, with full stores: dearer ways need no search. */
+        private void sumLeastPortions(int plateCount) {
+            leastFrom[seats] = 0;
+            for (int seat = seats - 1; seat >= 0; seat--) {
                 int least = NEVER;
                 for (int k = 0; k < plateCount; k++) {
                     if (dates[seat * Plates.MOST + k] == goal) {
                         least = Math.min(least, Plates.portionsIn(Plates.at(k)));
                     }
                 }
-                sum += least;
+                leastFrom[seat] = Math.min(NEVER, least + leastFrom[seat + 1]);
             }
-            return Math.min(sum, NEVER);
         }
 
         private int fewestFrom(int seat, int plateCount) {
@@ -1575,8 +1543,8 @@ public final class HungerDays {
                 return memo[cell] % 32;
             }
             int best = NEVER;
-            for (int k = 0; k < plateCount; k++) {
-                if (canTake(seat, k)) {
+            for (int k = 0; k < plateCount && best > leastFrom[seat]; k++) {
+                if (canTake(seat, k, best - 1)) {
                     best = Math.min(best, fewestWith(seat, k, plateCount));
                 }
             }
@@ -1584,16 +1552,18 @@ public final class HungerDays {
             return best;
         }
 
-        private boolean canTake(int seat, int k) {
+        /** Whether a plate leads to the date, is there, and leaves enough of the most portions from this seat on. */
+        private boolean canTake(int seat, int k, int most) {
             if (dates[seat * Plates.MOST + k] != goal) {
                 return false;
             }
+            int plate = Plates.at(k);
             for (int f = 0; f < FOODS; f++) {
-                if (Plates.portionsOf(Plates.at(k), f) > left[f]) {
+                if (Plates.portionsOf(plate, f) > left[f]) {
                     return false;
                 }
             }
-            return true;
+            return Plates.portionsIn(plate) + leastFrom[seat + 1] <= most;
         }
 
         private int fewestWith(int seat, int k, int plateCount) {
@@ -1622,7 +1592,7 @@ public final class HungerDays {
             for (int seat = 0; seat < seats; seat++) {
                 int fewest = fewestFrom(seat, plateCount);
                 for (int k = 0; k < plateCount; k++) {
-                    if (canTake(seat, k) && fewestWith(seat, k, plateCount) == fewest) {
+                    if (canTake(seat, k, fewest) && fewestWith(seat, k, plateCount) == fewest) {
                         plates[guests[seat]] = Plates.at(k);
                         serve(Plates.at(k), 1);
                         break;
@@ -1822,13 +1792,15 @@ public final class HungerDays {
             return 0;
         }
 
+        /** No step is added for what was refused. */
         private boolean addStep(int stepWord, int stepSign, int stepNumber) {
-            if (steps < STEPS) {
-                word[steps] = stepWord;
-                sign[steps] = stepSign;
-                number[steps] = stepNumber;
-                steps++;
+            if (stepNumber == NONE || steps >= STEPS) {
+                return false;
             }
+            word[steps] = stepWord;
+            sign[steps] = stepSign;
+            number[steps] = stepNumber;
+            steps++;
             return true;
         }
 
@@ -1850,15 +1822,10 @@ public final class HungerDays {
                 case NOT_WORD: return readOne(reader, valley, depth + 1) && addStep(NOT_WORD, 0, 0);
                 case ILL_WORD:
                 case OWES_WORD: return addStep(first, 0, 0);
-                case LIKE_WORD: return readNamed(reader, valley, first, PERSON);
-                case IN_WORD: return readNamed(reader, valley, first, MEETING);
+                case LIKE_WORD: return addStep(first, 0, reader.takeNamed(valley, PERSON));
+                case IN_WORD: return addStep(first, 0, reader.takeNamed(valley, MEETING));
                 default: return readComparison(reader, first);
             }
-        }
-
-        private boolean readNamed(Reader reader, Valley valley, int first, int sort) {
-            int named = reader.takeNamed(valley, sort);
-            return named != NONE && addStep(first, 0, named);
         }
 
         private boolean readComparison(Reader reader, int first) {
@@ -1867,8 +1834,7 @@ public final class HungerDays {
             }
             int told = reader.sign;
             reader.next();
-            int than = reader.takeNumber(0, 999);
-            return than != NONE && addStep(first, told, than);
+            return addStep(first, told, reader.takeNumber(0, 999));
         }
 
         int trueOf(State state) {

@@ -72,6 +72,17 @@ final class DrawTest {
         Kit.due("no hours are no act", 590, x.now(0));
     }
 
+    /** The two are of one date in some hour about the twentieth alone, later ones by who was ill. */
+    private static void oddsAtTheEdge(HungerDays x) {
+        int want = 0;
+        for (int i = 0; i < 30; i++) {
+            x.drawn(20, 100 + i);
+            want += x.meeting(0, 1) == -1 ? 0 : 1;
+            x.undo();
+        }
+        Kit.due("odds of 20 hours", want, x.odds(0, 30, 100));
+    }
+
     private static void odds() {
         HungerDays x = Kit.of(Kit.VALLEY);
         for (int seed : new int[] {5, Integer.MAX_VALUE - 2, -3}) {
@@ -82,6 +93,9 @@ final class DrawTest {
                 x.undo();
             }
             Kit.due("odds(0, 30, " + seed + ")", want, x.odds(0, 30, seed));
+        }
+        for (int hunger = 12; hunger < 24; hunger++) {
+            oddsAtTheEdge(Kit.of("span 1;person a 1 0 0;person b 0 " + hunger + " 0;meeting m a b;food f 1 0;"));
         }
         HungerDays y = Kit.of("person a 0 0 0;meeting m a;food f 1 1;");
         y.meet(0);

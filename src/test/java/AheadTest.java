@@ -12,12 +12,6 @@ final class AheadTest {
         Kit.end();
     }
 
-    private static void goTo(HungerDays x, int hour) {
-        while (x.now(0) < hour) {
-            x.hours(Math.min(60, hour - x.now(0)));
-        }
-    }
-
     private static void twins() {
         HungerDays x = Kit.of(Kit.VALLEY);
         Kit.due("twins(0, 1)", 81, x.twins(0, 1));
@@ -33,19 +27,19 @@ final class AheadTest {
         Kit.due("never", -1, y.twins(1, 2));
         HungerDays z = Kit.of("span 1;person a 1 0 0;person b 0 199 0;");
         z.ail(0);
-        goTo(z, 399);
+        Kit.goTo(z, 399);
         z.mend(0);
         z.hours(2);
         z.undo();
         Kit.due("in hour 598", 598, z.twins(0, 1));
         HungerDays w = Kit.of("span 1;person a 1 0 0;person b 0 199 0;");
         w.ail(0);
-        goTo(w, 401);
+        Kit.goTo(w, 401);
         w.mend(0);
         Kit.due("hour 600, too", 600, w.twins(0, 1));
         HungerDays v = Kit.of("span 1;person a 1 0 0;person b 0 199 0;");
         v.ail(0);
-        goTo(v, 402);
+        Kit.goTo(v, 402);
         v.mend(0);
         Kit.due("not beyond hour 600", -1, v.twins(0, 1));
     }
@@ -63,7 +57,7 @@ final class AheadTest {
         Kit.due("with him now", 0, x.late(0));
         HungerDays y = Kit.of("span 1;person a 1 0 0;");
         Kit.due("199", 199, y.late(199));
-        goTo(y, 100);
+        Kit.goTo(y, 100);
         Kit.due("hours are told from hour 0", 150, y.late(150));
     }
 
@@ -121,9 +115,9 @@ final class AheadTest {
         Kit.due("keeps(0)", -1, x.keeps(0));
         Kit.due("keeps(200)", -1, x.keeps(200));
         Kit.due("keeps(199)", 200, x.keeps(199));
-        goTo(x, 450);
+        Kit.goTo(x, 450);
         Kit.due("till hour 600", 150, x.keeps(199));
-        goTo(x, 600);
+        Kit.goTo(x, 600);
         Kit.due("hour 600", 0, x.keeps(199));
         HungerDays y = Kit.of("person a 0 15 0;person b 1 0 0;food f 1 3;food g 6 1;");
         y.ail(0);
@@ -161,12 +155,12 @@ final class AheadTest {
         Kit.due("paid already", -1, x.paid(0));
         HungerDays y = Kit.of("span 1;person a 1 0 9;person b 0 0 0;debt a b 9 199;");
         y.ail(0);
-        goTo(y, 401);
+        Kit.goTo(y, 401);
         y.mend(0);
         Kit.due("in the last hour", 599, y.paid(0));
         HungerDays z = Kit.of("span 1;person a 1 0 9;person b 0 0 0;debt a b 9 199;");
         z.ail(0);
-        goTo(z, 402);
+        Kit.goTo(z, 402);
         z.mend(0);
         Kit.due("too late", -1, z.paid(0));
         HungerDays w = Kit.of("span 1;person a 0 0 9;person b 0 0 0;debt a b 9 0;");

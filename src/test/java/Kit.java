@@ -1,5 +1,7 @@
 import java.nio.charset.StandardCharsets;
 import java.util.NoSuchElementException;
+import java.util.function.Consumer;
+import java.util.function.Supplier;
 
 /** What the tests share: texts put on the tape, answers compared with those that are due. */
 final class Kit {
@@ -121,6 +123,62 @@ final class Kit {
         HungerDays x = of(VALLEY);
         due("sentence of " + text, -1 - place, sentence(x, text));
         due("fault of " + text, kind, x.fault());
+    }
+
+    /** All but fault() that an object tells by calls that leave it as it is (some 200 of its 512 calls at most). */
+    static String seen(HungerDays x) {
+        StringBuilder all = new StringBuilder();
+        for (int p = 0; p < x.count(0); p++) {
+            for (int what = 0; what < 8; what++) {
+                all.append(x.person(p, what)).append(' ');
+            }
+            all.append("plate ").append(x.plate(p)).append(' ');
+        }
+        for (int d = 0; d < x.count(3); d++) {
+            for (int what = 0; what < 6; what++) {
+                all.append(x.debt(d, what)).append(' ');
+            }
+        }
+        for (int what = 0; what < 8; what++) {
+            for (int f = 0; f < x.count(1) && what < 2; f++) {
+                all.append(x.food(f, what)).append(' ');
+            }
+            for (int m = 0; m < x.count(2) && what < 4; m++) {
+                all.append(x.meeting(m, what)).append(' ');
+            }
+            all.append("now ").append(x.now(what)).append(' ');
+            all.append(what < 6 ? x.count(what) : 0).append(' ');
+            all.append(what < 4 ? x.told(what) : 0).append(' ');
+            all.append(x.said(what - 1)).append(' ');
+        }
+        return all.append(x.feast() + " " + x.surely() + " " + x.ask()).toString();
+    }
+
+    /** What is so behind each undo(), till nothing more can be undone; the object is used up by it. */
+    static String past(HungerDays x) {
+        StringBuilder all = new StringBuilder();
+        for (int i = 0; i < 10; i++) {
+            all.append(x.undo() + " at " + x.now(0) + " " + x.now(2) + " " + x.now(3) + " " + x.now(6) + ", ");
+        }
+        return all.toString();
+    }
+
+    /** A call leaves all as it is: two objects made alike stay alike, though the call is made on one alone. */
+    static void dueNoChange(String call, Supplier<HungerDays> maker, Consumer<HungerDays> refused) {
+        HungerDays x = maker.get();
+        HungerDays twin = maker.get();
+        refused.accept(x);
+        String want = seen(twin);
+        String got = seen(x);
+        due(call + " leaves " + want + " (now " + got + ")", true, want.equals(got));
+        due(call + " leaves fault()", twin.fault(), x.fault());
+        due(call + " leaves what can be undone", true, past(twin).equals(past(x)));
+    }
+
+    static void goTo(HungerDays x, int hour) {
+        while (x.now(0) < hour) {
+            x.hours(Math.min(60, hour - x.now(0)));
+        }
     }
 
     static String repeat(String part, int times) {

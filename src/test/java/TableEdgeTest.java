@@ -110,6 +110,7 @@ final class TableEdgeTest {
         duePlates("span 1;person a 0 3 0;person b 0 0 0;food f 3 0;food g 3 1;", 3, 1, 0, 4, 0);
         duePlates("span 1;person a 0 6 0;person b 0 6 0;person c 0 0 0;food f 2 5;", 7, -1, -1, -1, -1, -1);
         duePlates("span 1;person a 0 6 0;person b 0 4 0;person c 0 0 0;food f 2 5;", 7, 5, 0, 3, 2, 0);
+        duePlates("span 5;person a 0 15 0;person b 0 9 0;person c 0 14 0;food f 2 5;food g 10 1;", 7, 4, 1, 4, 0, 3);
         HungerDays x = Kit.of("span 1;person a 0 4 0;person b 0 0 0;person c 0 9 0;food f 2 2;");
         Kit.due("two portions", 2, x.table(3));
         x.eat(2, 0);
@@ -193,6 +194,8 @@ final class TableEdgeTest {
         Kit.due("the plate stays as hours go", 4, x.plate(1));
         x.undo();
         Kit.due("the plate stays as acts are undone", 4, x.plate(1));
+        Kit.due("a table of him alone", 0, x.table(2));
+        Kit.due("his plate is another one", 0, x.plate(1));
         Kit.due("another table", 0, x.table(4));
         Kit.due("its feast", 7, x.feast());
         Kit.due("who was not of it", -1, x.plate(1));

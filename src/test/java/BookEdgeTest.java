@@ -62,8 +62,8 @@ final class BookEdgeTest {
 
     /** "{ LINE ; }, 40 at most"; "4 .. a 41st LINE of a BOOK (at the LINE's first WORD)". */
     private static void fortyLines() {
-        HungerDays x = Kit.of(Kit.VALLEY);
         for (int lines = 1; lines <= 40; lines++) {
+            HungerDays x = Kit.of(Kit.VALLEY);
             Kit.due(lines + " lines", -1, Kit.book(x, Kit.repeat("hour 1;", lines), 0));
             dueTold(x, 0, lines, lines, 0);
         }

@@ -34,7 +34,7 @@ final class ModelTest {
         int failed = 0;
         for (int seed = 0; seed < runs && failed < 3; seed++) {
             ModelTest test = new ModelTest(seed);
-            test.goOn(500);
+            test.goOn(450);
             if (test.wrong) {
                 failed++;
                 int from = Math.max(0, test.run.size() - 12);

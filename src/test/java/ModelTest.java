@@ -30,7 +30,7 @@ final class ModelTest {
     }
 
     public static void main(String[] args) {
-        int runs = args.length > 0 ? Integer.parseInt(args[0]) : 1500;
+        int runs = args.length > 0 ? Integer.parseInt(args[0]) : 3000;
         int failed = 0;
         for (int seed = 0; seed < runs && failed < 3; seed++) {
             ModelTest test = new ModelTest(seed);

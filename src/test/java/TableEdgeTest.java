@@ -111,6 +111,8 @@ final class TableEdgeTest {
         duePlates("span 1;person a 0 6 0;person b 0 6 0;person c 0 0 0;food f 2 5;", 7, -1, -1, -1, -1, -1);
         duePlates("span 1;person a 0 6 0;person b 0 4 0;person c 0 0 0;food f 2 5;", 7, 5, 0, 3, 2, 0);
         duePlates("span 5;person a 0 15 0;person b 0 9 0;person c 0 14 0;food f 2 5;food g 10 1;", 7, 4, 1, 4, 0, 3);
+        duePlates("span 1;person a 0 19 0;person b 0 8 0;food f 8 1;food g 1 2;food h 5 1;", 3, 4, 6, 17, 8);
+        duePlates("span 1;person a 0 10 0;person b 0 7 0;food f 1 3;food g 4 5;", 3, 2, 6, 4, 1);
         HungerDays x = Kit.of("span 1;person a 0 4 0;person b 0 0 0;person c 0 9 0;food f 2 2;");
         Kit.due("two portions", 2, x.table(3));
         x.eat(2, 0);

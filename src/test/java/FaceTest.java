@@ -24,6 +24,10 @@ final class FaceTest {
     public static void main(String[] args) throws Exception {
         methods();
         members();
+        statics(HungerDays.class);
+        for (Class<?> c : HungerDays.class.getDeclaredClasses()) {
+            statics(c);
+        }
         source();
         Kit.end();
     }
@@ -69,6 +73,32 @@ final class FaceTest {
         return Arrays.stream(c.getDeclaredFields()).filter(f -> !Modifier.isStatic(f.getModifiers())).count();
     }
 
+    /** LANGUAGE.md's rules 5 and 11: static fields are final, a method takes at most seven parameters. */
+    private static void statics(Class<?> c) {
+        for (Field f : c.getDeclaredFields()) {
+            boolean kept = !Modifier.isStatic(f.getModifiers()) || Modifier.isFinal(f.getModifiers());
+            Kit.due(c.getName() + "." + f.getName() + " is final or the object's own", true, kept);
+        }
+        for (Method m : c.getDeclaredMethods()) {
+            Kit.due(c.getName() + "." + m.getName() + " has few parameters", true, m.getParameterCount() <= 7);
+        }
+    }
+
+    /** Rule 11: a member of the class ends at most some sixty lines behind its beginning; a nested one likewise. */
+    private static void lengths(String text) {
+        int begun = 0;
+        int number = 0;
+        for (String line : text.split("\n")) {
+            number++;
+            if (line.matches(" {4}( {4})?[a-z].*\\) (throws \\w+ )?\\{")) {
+                begun = number;
+            } else if (line.matches(" {4}( {4})?\\}") && begun > 0) {
+                Kit.due("the lines of what begins in line " + begun + " are few", true, number - begun < 60);
+                begun = 0;
+            }
+        }
+    }
+
     private static void source() throws Exception {
         String text = Files.readString(Path.of("src/main/java/HungerDays.java"), StandardCharsets.ISO_8859_1);
         for (String word : WORDS) {
@@ -79,6 +109,7 @@ final class FaceTest {
                 Kit.due("signs of the source", 0, c);
             }
         }
+        lengths(text);
         int imports = text.split("\nimport |^import ", -1).length - 1;
         Kit.due("imports", 1, imports);
     }
